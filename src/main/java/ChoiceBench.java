@@ -338,6 +338,7 @@ public final class ChoiceBench {
         }
     }
 
+    /** A WORD that is CLAIMED is its claimer's; one that is OUT stays too, as the document has it. */
     private void runOutOfTime(Proc c) {
         if (c.word.kind == WAITING) {
             putOut(c, OVER_BY_TIME);

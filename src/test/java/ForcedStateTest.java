@@ -17,6 +17,7 @@ public final class ForcedStateTest {
         outAndInOnePair();
         unmet();
         unmetIsOfCouples();
+        unmetForgetsOldGuards();
         held();
         Due.end();
     }
@@ -123,6 +124,14 @@ public final class ForcedStateTest {
         Due.is("WITHDRAW", x.step(0), 5);
         x.finish(0);
         Due.is("it stays so", x.doubles(), 1);
+        Due.single(x, 0, Due.SEND, 0, 5);
+        Due.until(x, 0, Due.ASLEEP);
+        Due.single(x, 2, Due.RECEIVE, 0, 0);
+        Due.until(x, 2, Due.TELL);
+        Due.is("in one PAIR in its next VERSION", x.doubles(), 1);
+        setWord(x, 0, "kind", Due.WAITING);
+        x.cancel(0);
+        Due.is("and OUT there too", x.doubles(), 2);
     }
 
     private static void outAndInOnePair() throws ReflectiveOperationException {
@@ -191,6 +200,24 @@ public final class ForcedStateTest {
         sleep(y, 1, eight);
         sleep(y, 2, new int[][] {{Due.SEND, 0, 1}, {Due.RECEIVE, 7, 1}});
         Due.is("the last GUARDS of both", y.unmet(), 1);
+    }
+
+    private static void unmetForgetsOldGuards() throws ReflectiveOperationException {
+        ChoiceBench x = new ChoiceBench(2);
+        for (int p = 0; p < 2; p++) {
+            sleep(x, p, new int[][] {{p, 0, 1}, {p, 0, 1}, {p, 0, 1}});
+        }
+        Due.is("they match", x.unmet(), 1);
+        for (int p = 0; p < 2; p++) {
+            x.cancel(p);
+            x.finish(p);
+            sleep(x, p, new int[][] {{Due.SEND, 0, 1}});
+            Due.is("the GUARDS of an earlier OFFER don't count", x.unmet(), p == 0 ? 1 : 0);
+        }
+        x.cancel(0);
+        x.finish(0);
+        sleep(x, 0, new int[][] {{Due.SEND, 0, 1}, {Due.RECEIVE, 1, 1}});
+        Due.is("on either side", x.unmet(), 0);
     }
 
     private static void held() throws ReflectiveOperationException {
