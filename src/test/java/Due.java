@@ -25,8 +25,28 @@ final class Due {
 
     private static int compared = 0;
     private static int wrong = 0;
+    private static int sentences = 0;
+    private static String about = "";
 
     private Due() {
+    }
+
+    /** What is compared from here on belongs to these words of the document, up to the next ones. */
+    static void sentence(int promise, String words) {
+        sentences++;
+        about = "promise " + promise + ", \"" + words + "\": ";
+    }
+
+    /** Runs tests that each have their own sentence; one that breaks off does not keep the others back. */
+    static void each(Runnable... tests) {
+        for (Runnable test : tests) {
+            try {
+                test.run();
+            } catch (RuntimeException thrown) {
+                wrong++;
+                System.out.println(about + "threw " + thrown);
+            }
+        }
     }
 
     static void is(String call, long got, long want) {
@@ -34,7 +54,7 @@ final class Due {
         if (got != want) {
             wrong++;
             if (wrong <= 40) {
-                System.out.println(call + " answered " + got + ", due is " + want);
+                System.out.println(about + call + " answered " + got + ", due is " + want);
             }
         }
     }
@@ -53,7 +73,8 @@ final class Due {
 
     /** Ends the test: exit code 1 if an answer was not due. */
     static void end() {
-        System.out.println(compared + " answers, " + wrong + " not as due");
+        String of = sentences == 0 ? "" : " of " + sentences + " sentences";
+        System.out.println(compared + " answers" + of + ", " + wrong + " not as due");
         if (wrong != 0 || compared == 0) {
             System.exit(1);
         }

@@ -2,24 +2,52 @@ import java.lang.reflect.Array;
 import java.lang.reflect.Field;
 
 /**
- * Promises 6 and 16 to 19 where calls alone can't reach: the steps never let doubles(), unmet() and
- * held() be above 0, and 512 calls are too few for VERSION 1000 or 200 PAIRS. So this test writes into
- * the private state, and is the only one that knows how it is held.
+ * The edges of promises 5, 6 and 16 to 20 that calls alone can't reach: the steps never let doubles(),
+ * unmet() and held() be above 0, and 512 calls are too few for VERSION 1000, CLOCK 1000 or 200 PAIRS. So
+ * this test writes into the private state, and is the only one that knows how it is held.
  */
 public final class ForcedStateTest {
     private static final int NONE = ChoiceBench.NONE;
 
     public static void main(String[] args) throws ReflectiveOperationException {
+        if (!isHeldAsKnownHere()) {
+            // How the state is held is free, says the document: no fault of the class.
+            System.out.println("skipped: the class holds its state in another way than this test knows");
+            return;
+        }
+        largestTimeout();
+        versionBeforeTheLast();
         lastVersion();
-        knownPairs();
+        lastKnownPair();
+        pairsNotKnownCount();
         inTwoPairs();
+        inTwoPairsNotKnown();
         inOnePairAndOut();
         outAndInOnePair();
         unmet();
+        unmetNotWaiting();
+        unmetNotAsleep();
+        unmetWithoutMatch();
         unmetIsOfCouples();
         unmetForgetsOldGuards();
         held();
+        heldOnlyIfClaimed();
         Due.end();
+    }
+
+    private static boolean isHeldAsKnownHere() {
+        ChoiceBench x = new ChoiceBench(2);
+        try {
+            set(x, "clock", 0);
+            set(get(x, "pairs"), "size", 0);
+            setPhase(x, 0, Due.GONE);
+            setWord(x, 0, "kind", Due.FREE);
+            setWord(x, 0, "version", 0);
+            setWord(x, 0, "claimer", NONE);
+        } catch (ReflectiveOperationException | IllegalArgumentException otherwise) {
+            return false;
+        }
+        return true;
     }
 
     private static Object get(Object of, String name) throws ReflectiveOperationException {
@@ -47,21 +75,43 @@ public final class ForcedStateTest {
         set(process(x, p), "phase", phase);
     }
 
-    private static void lastVersion() throws ReflectiveOperationException {
+    private static void largestTimeout() throws ReflectiveOperationException {
+        Due.sentence(5, "n is not 0 .. 1000: the largest one, DUE at CLOCK 1000");
+        ChoiceBench x = new ChoiceBench(2);
+        x.spawn(0);
+        Due.yes("timeout(0, 1000)", x.timeout(0, 1000));
+        x.offer(0);
+        set(x, "clock", 999);
+        Due.is("step(0) at CLOCK 999", x.step(0), 1);
+        Due.is("tick()", x.tick(), 1000);
+        Due.is("step(0) at CLOCK 1000", x.step(0), 3);
+    }
+
+    private static void versionBeforeTheLast() throws ReflectiveOperationException {
+        Due.sentence(6, "or its VERSION is 1000: it is 999");
         ChoiceBench x = new ChoiceBench(2);
         x.spawn(0);
         setWord(x, 0, "version", 999);
-        Due.yes("VERSION 999", x.offer(0));
-        Due.is("VERSION", x.word(0, 1), 1000);
-        x.cancel(0);
-        x.finish(0);
-        Due.no("VERSION 1000", x.offer(0));
-        Due.is("VERSION", x.word(0, 1), 1000);
-        Due.phase("refused", x, 0, Due.IDLE);
-        Due.is("refused", x.word(0, 0), Due.FREE);
+        Due.yes("offer(0)", x.offer(0));
+        Due.is("word(0, 1)", x.word(0, 1), 1000);
+        Due.is("word(0, 0)", x.word(0, 0), Due.WAITING);
     }
 
-    private static void knownPairs() throws ReflectiveOperationException {
+    private static void lastVersion() throws ReflectiveOperationException {
+        Due.sentence(6, "false if .. its VERSION is 1000");
+        ChoiceBench x = new ChoiceBench(2);
+        x.spawn(0);
+        setWord(x, 0, "version", 1000);
+        Due.no("offer(0)", x.offer(0));
+        Due.is("word(0, 1)", x.word(0, 1), 1000);
+        Due.is("word(0, 0)", x.word(0, 0), Due.FREE);
+        Due.phase("refused", x, 0, Due.IDLE);
+        x.spawn(1);
+        Due.yes("offer(1)", x.offer(1));
+    }
+
+    /** Three PAIRS came, the first of them the 200th. */
+    private static ChoiceBench aroundTheLastKnown() throws ReflectiveOperationException {
         ChoiceBench x = new ChoiceBench(2);
         set(get(x, "pairs"), "size", 199);
         for (int round = 1; round <= 3; round++) {
@@ -73,12 +123,29 @@ public final class ForcedStateTest {
             x.finish(0);
             x.finish(1);
         }
-        Due.is("PAIRS", x.count(2), 202);
-        Due.is("the 200th", x.pair(199, 3), 1);
-        Due.is("the 200th", x.pair(199, 7), 8);
-        Due.is("the 201st", x.pair(200, 0), NONE);
-        Due.is("the 202nd", x.pair(201, 0), NONE);
-        Due.is("none", x.pair(202, 0), NONE);
+        return x;
+    }
+
+    private static void lastKnownPair() throws ReflectiveOperationException {
+        Due.sentence(16, "the first 200 are known");
+        ChoiceBench x = aroundTheLastKnown();
+        int[] last = {1, 0, 0, 1, 0, 1, 1, 8};
+        for (int what = 0; what < 8; what++) {
+            Due.is("pair(199, " + what + ")", x.pair(199, what), last[what]);
+            for (int i = 200; i < 203; i++) {
+                Due.is("pair(" + i + ", " + what + ")", x.pair(i, what), NONE);
+            }
+        }
+    }
+
+    private static void pairsNotKnownCount() throws ReflectiveOperationException {
+        Due.sentence(20, "2: PAIRS that came: those that are not known too");
+        ChoiceBench x = aroundTheLastKnown();
+        Due.is("count(2)", x.count(2), 202);
+        Due.single(x, 0, Due.SEND, 0, 5);
+        Due.single(x, 1, Due.RECEIVE, 0, 5);
+        Due.is("run(200, 1)", x.run(200, 1), 1);
+        Due.is("count(2)", x.count(2), 203);
     }
 
     /** 1 and 0 are a PAIR, 1 is behind TELL and OWN; 0, ASLEEP, has not seen it. */
@@ -93,6 +160,7 @@ public final class ForcedStateTest {
     }
 
     private static void inTwoPairs() throws ReflectiveOperationException {
+        Due.sentence(17, "are in more than one PAIR");
         ChoiceBench x = oneMet();
         setWord(x, 0, "kind", Due.WAITING);
         Due.single(x, 2, Due.RECEIVE, 0, 0);
@@ -116,7 +184,20 @@ public final class ForcedStateTest {
         Due.is("3 is in two PAIRS, 0 is not in its new VERSION", x.doubles(), 2);
     }
 
+    private static void inTwoPairsNotKnown() throws ReflectiveOperationException {
+        Due.sentence(17, "(of all PAIRS): the first 200 and those behind them");
+        for (int size : new int[] {199, 200, 300}) {
+            ChoiceBench x = oneMet();
+            set(get(x, "pairs"), "size", size);
+            setWord(x, 0, "kind", Due.WAITING);
+            Due.single(x, 2, Due.RECEIVE, 0, 0);
+            Due.until(x, 2, Due.TELL);
+            Due.is("doubles() behind " + size + " PAIRS", x.doubles(), 1);
+        }
+    }
+
     private static void inOnePairAndOut() throws ReflectiveOperationException {
+        Due.sentence(17, "or in one and OUT: OUT behind the PAIR");
         ChoiceBench x = oneMet();
         setWord(x, 0, "kind", Due.WAITING);
         Due.yes("cancel", x.cancel(0));
@@ -135,6 +216,7 @@ public final class ForcedStateTest {
     }
 
     private static void outAndInOnePair() throws ReflectiveOperationException {
+        Due.sentence(17, "or in one and OUT: OUT before the PAIR");
         ChoiceBench x = new ChoiceBench(2);
         Due.single(x, 0, Due.SEND, 0, 5);
         Due.until(x, 0, Due.ASLEEP);
@@ -156,37 +238,55 @@ public final class ForcedStateTest {
         setPhase(x, p, Due.ASLEEP);
     }
 
-    private static void unmet() throws ReflectiveOperationException {
+    private static ChoiceBench bothSleep() throws ReflectiveOperationException {
         ChoiceBench x = new ChoiceBench(2);
         sleep(x, 0, new int[][] {{Due.SEND, 0, 1}});
         sleep(x, 1, new int[][] {{Due.RECEIVE, 0, 1}});
-        Due.is("they match", x.unmet(), 1);
+        return x;
+    }
+
+    private static void unmet() throws ReflectiveOperationException {
+        Due.sentence(18, "are both ASLEEP with WORDS that are WAITING, and have GUARDS that MATCH");
+        Due.is("unmet()", bothSleep().unmet(), 1);
+    }
+
+    private static void unmetNotWaiting() throws ReflectiveOperationException {
+        Due.sentence(18, "with WORDS that are WAITING: either one is of another kind");
         for (int p = 0; p < 2; p++) {
             for (int kind = Due.FREE; kind <= Due.OUT; kind++) {
+                ChoiceBench x = bothSleep();
                 setWord(x, p, "kind", kind);
-                Due.is("the WORD of " + p + " is " + kind, x.unmet(), kind == Due.WAITING ? 1 : 0);
+                Due.is("the WORD of " + p + " is " + kind + ": unmet()", x.unmet(), kind == Due.WAITING ? 1 : 0);
             }
-            setWord(x, p, "kind", Due.WAITING);
-            for (int phase = Due.GONE; phase <= Due.DONE; phase++) {
-                setPhase(x, p, phase);
-                Due.is("the PHASE of " + p + " is " + phase, x.unmet(), phase == Due.ASLEEP ? 1 : 0);
-            }
-            setPhase(x, p, Due.ASLEEP);
         }
+    }
+
+    private static void unmetNotAsleep() throws ReflectiveOperationException {
+        Due.sentence(18, "are both ASLEEP: either one is in another PHASE");
+        for (int p = 0; p < 2; p++) {
+            for (int phase = Due.GONE; phase <= Due.DONE; phase++) {
+                ChoiceBench x = bothSleep();
+                setPhase(x, p, phase);
+                Due.is("the PHASE of " + p + " is " + phase + ": unmet()", x.unmet(), phase == Due.ASLEEP ? 1 : 0);
+            }
+        }
+    }
+
+    private static void unmetWithoutMatch() throws ReflectiveOperationException {
+        Due.sentence(18, "and have GUARDS that MATCH: either one has none");
         int[][] others = {{Due.SEND, 0, 1}, {Due.RECEIVE, 1, 1}, {Due.RECEIVE, 0, 0}};
         for (int[] other : others) {
-            ChoiceBench y = new ChoiceBench(2);
-            sleep(y, 0, new int[][] {{Due.SEND, 0, 1}});
-            sleep(y, 1, new int[][] {other});
-            Due.is("they don't match", y.unmet(), 0);
-            ChoiceBench z = new ChoiceBench(2);
-            sleep(z, 0, new int[][] {other});
-            sleep(z, 1, new int[][] {{Due.SEND, 0, 1}});
-            Due.is("they don't match", z.unmet(), 0);
+            for (int p = 0; p < 2; p++) {
+                ChoiceBench x = new ChoiceBench(2);
+                sleep(x, p, new int[][] {{Due.SEND, 0, 1}});
+                sleep(x, 1 - p, new int[][] {other});
+                Due.is("unmet()", x.unmet(), 0);
+            }
         }
     }
 
     private static void unmetIsOfCouples() throws ReflectiveOperationException {
+        Due.sentence(18, "How many couples of PROCESSES: each once, of all that there are");
         ChoiceBench x = new ChoiceBench(16);
         for (int p = 0; p < 16; p++) {
             sleep(x, p, new int[][] {{Due.SEND, 3, 1}, {Due.RECEIVE, 3, 1}, {Due.RECEIVE, 3, 1}});
@@ -203,6 +303,7 @@ public final class ForcedStateTest {
     }
 
     private static void unmetForgetsOldGuards() throws ReflectiveOperationException {
+        Due.sentence(18, "and have GUARDS that MATCH: now, not in an earlier OFFER");
         ChoiceBench x = new ChoiceBench(2);
         for (int p = 0; p < 2; p++) {
             sleep(x, p, new int[][] {{p, 0, 1}, {p, 0, 1}, {p, 0, 1}});
@@ -220,24 +321,33 @@ public final class ForcedStateTest {
         Due.is("on either side", x.unmet(), 0);
     }
 
+    private static void claimAll(ChoiceBench x, int claimer) throws ReflectiveOperationException {
+        for (int p = 0; p < 3; p++) {
+            setWord(x, p, "kind", Due.CLAIMED);
+            setWord(x, p, "claimer", claimer);
+        }
+    }
+
     private static void held() throws ReflectiveOperationException {
+        Due.sentence(19, "by a PROCESS that is not in SECOND, BACK, TELL or OWN: in each other PHASE");
         ChoiceBench x = new ChoiceBench(3);
-        int[] phases = {Due.SECOND, Due.BACK, Due.TELL, Due.OWN};
         for (int claimer = 0; claimer < 3; claimer++) {
-            for (int p = 0; p < 3; p++) {
-                setWord(x, p, "kind", Due.CLAIMED);
-                setWord(x, p, "claimer", claimer);
-            }
+            claimAll(x, claimer);
             for (int phase = Due.GONE; phase <= Due.DONE; phase++) {
                 setPhase(x, claimer, phase);
-                boolean may = false;
-                for (int one : phases) {
-                    may |= one == phase;
-                }
-                Due.is("held in " + phase, x.held(), may ? 0 : 3);
+                boolean may = phase == Due.SECOND || phase == Due.BACK || phase == Due.TELL || phase == Due.OWN;
+                Due.is("by " + claimer + " in PHASE " + phase + ": held()", x.held(), may ? 0 : 3);
             }
         }
-        setWord(x, 1, "kind", Due.TAKEN);
-        Due.is("only what is CLAIMED", x.held(), 2);
+    }
+
+    private static void heldOnlyIfClaimed() throws ReflectiveOperationException {
+        Due.sentence(19, "How many WORDS are CLAIMED: not those of another kind");
+        for (int kind = Due.FREE; kind <= Due.OUT; kind++) {
+            ChoiceBench x = new ChoiceBench(3);
+            claimAll(x, 0);
+            setWord(x, 1, "kind", kind);
+            Due.is("one of three is " + kind + ": held()", x.held(), kind == Due.CLAIMED ? 3 : 2);
+        }
     }
 }

@@ -17,7 +17,6 @@ public final class TellTest {
         unmetNeedsMatches();
         held();
         count();
-        tellingChangesNothing();
         Due.is("NONE", ChoiceBench.NONE, -1);
         Due.end();
     }
@@ -415,36 +414,5 @@ public final class TellTest {
         x.quit(1);
         x.quit(3);
         counts(x, new int[] {4, 2, 1, 1, 14, 2, 3, 3, 1});
-    }
-
-    /** Tells of every kind in the midst of a run; the run must go as it goes without. */
-    private static void tellingChangesNothing() {
-        ChoiceBench x = new ChoiceBench(3);
-        ChoiceBench y = new ChoiceBench(3);
-        for (int p = 0; p < 3; p++) {
-            Due.single(x, p, p % 2, 0, p);
-            Due.single(y, p, p % 2, 0, p);
-        }
-        for (int i = 0; i < 20; i++) {
-            x.step(i % 3);
-            y.step(i % 3);
-            for (int what = -1; what < 4; what++) {
-                x.word(i % 3, what);
-                x.outcome(i % 3, what);
-                x.entry(0, what, what);
-                x.pair(0, what);
-            }
-            x.doubles();
-            x.unmet();
-            x.held();
-            Due.is("refused", x.run(-1, 0), NONE);
-        }
-        for (int p = 0; p < 3; p++) {
-            Due.is("phase(" + p + ")", x.phase(p), y.phase(p));
-            Due.is("word(" + p + ", 0)", x.word(p, 0), y.word(p, 0));
-        }
-        for (int what = 0; what < 9; what++) {
-            Due.is("count(" + what + ")", x.count(what), y.count(what));
-        }
     }
 }
