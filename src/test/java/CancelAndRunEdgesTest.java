@@ -111,9 +111,7 @@ public final class CancelAndRunEdgesTest {
 
     private static void cancelOfNoProcess() {
         Due.sentence(8, "false if it is not OFFERING: no PROCESS");
-        for (int p : Scene.NO_PROCESS) {
-            Scene.refused("cancel(" + p + ")", x -> x.cancel(p), Due.ASLEEP);
-        }
+        Scene.refusedOfNoProcess("cancel", (x, p) -> x.cancel(p), Due.ASLEEP);
     }
 
     private static void cancelOfOneNotOffering() {

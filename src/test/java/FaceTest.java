@@ -22,8 +22,8 @@ public final class FaceTest {
             "int doubles()", "int unmet()", "int held()", "int count(int)");
 
     private static final String[] FORBIDDEN = {
-        "throw", "throws", "try", "catch", "finally", "synchronized", "assert", "import", "package",
-        "->", "::", "volatile", "transient", "native", "Thread", "System.nanoTime",
+        "throw", "throws", "try", "catch", "finally", "synchronized", "assert", "package",
+        "::", "volatile", "transient", "native", "Thread", "System.nanoTime",
         "System.currentTimeMillis", "Exact"
     };
 
@@ -101,6 +101,11 @@ public final class FaceTest {
             Matcher found = sought.matcher(code);
             Due.no("'" + word + "' stands in the class", found.find());
         }
+        // The arrow of a switch is no lambda.
+        String noCases = code.replaceAll("(case [^;{}]*?|default\\s*)->", " ");
+        Due.no("a lambda stands in the class", noCases.contains("->"));
+        String noLists = code.replaceAll("import java\\.util\\.(ArrayList|List|Arrays|Iterator);", " ");
+        Due.no("another import stands in the class", noLists.contains("import "));
         Due.yes("characters 0 to 255 alone", text.chars().allMatch(c -> c <= 255));
     }
 }

@@ -2,7 +2,7 @@ import java.lang.reflect.Array;
 import java.lang.reflect.Field;
 
 /**
- * The edges of promises 5, 6 and 16 to 20 that calls alone can't reach: the steps never let doubles(),
+ * The edges of promises 5 to 7 and 16 to 20 that calls alone can't reach: the steps never let doubles(),
  * unmet() and held() be above 0, and 512 calls are too few for VERSION 1000, CLOCK 1000 or 200 PAIRS. So
  * this test writes into the private state, and is the only one that knows how it is held.
  */
@@ -18,6 +18,8 @@ public final class ForcedStateTest {
         largestTimeout();
         versionBeforeTheLast();
         lastVersion();
+        asleepWhenOut();
+        busyWithoutGuards();
         lastKnownPair();
         pairsNotKnownCount();
         inTwoPairs();
@@ -44,6 +46,7 @@ public final class ForcedStateTest {
             setWord(x, 0, "kind", Due.FREE);
             setWord(x, 0, "version", 0);
             setWord(x, 0, "claimer", NONE);
+            setBusy(x, 0);
         } catch (ReflectiveOperationException | IllegalArgumentException otherwise) {
             return false;
         }
@@ -73,6 +76,13 @@ public final class ForcedStateTest {
 
     private static void setPhase(ChoiceBench x, int p, int phase) throws ReflectiveOperationException {
         set(process(x, p), "phase", phase);
+    }
+
+    private static void setBusy(ChoiceBench x, int p) throws ReflectiveOperationException {
+        Object process = process(x, p);
+        Field f = process.getClass().getDeclaredField("busy");
+        f.setAccessible(true);
+        f.setBoolean(process, true);
     }
 
     private static void largestTimeout() throws ReflectiveOperationException {
@@ -108,6 +118,25 @@ public final class ForcedStateTest {
         Due.phase("refused", x, 0, Due.IDLE);
         x.spawn(1);
         Due.yes("offer(1)", x.offer(1));
+    }
+
+    private static void asleepWhenOut() throws ReflectiveOperationException {
+        Due.sentence(7, "ASLEEP: p's WORD is read. .. OUT: WITHDRAW");
+        ChoiceBench x = Scene.oneIn(Due.ASLEEP);
+        setWord(x, 1, "kind", Due.OUT);
+        Due.is("step(1)", x.step(1), 0);
+        Due.phase("OUT", x, 1, Due.WITHDRAW);
+    }
+
+    private static void busyWithoutGuards() throws ReflectiveOperationException {
+        Due.sentence(7, "if p is BUSY: .. (without such a one: ASLEEP)");
+        ChoiceBench x = new ChoiceBench(2);
+        x.spawn(0);
+        x.guard(0, Due.SEND, 0, 5, false);
+        x.offer(0);
+        setBusy(x, 0);
+        Due.is("step(0)", x.step(0), 1);
+        Due.phase("no GUARD is ON", x, 0, Due.ASLEEP);
     }
 
     /** Three PAIRS came, the first of them the 200th. */

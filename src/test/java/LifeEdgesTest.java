@@ -224,9 +224,7 @@ public final class LifeEdgesTest {
 
     private static void spawnOfNoProcess() {
         Due.sentence(2, "false if p is none such: no PROCESS");
-        for (int p : Scene.NO_PROCESS) {
-            Scene.refused("spawn(" + p + ")", x -> x.spawn(p), Due.IDLE);
-        }
+        Scene.refusedOfNoProcess("spawn", (x, p) -> x.spawn(p), Due.GONE);
     }
 
     private static void spawnOfOneNotGone() {
@@ -256,9 +254,7 @@ public final class LifeEdgesTest {
 
     private static void quitOfNoProcess() {
         Due.sentence(3, "false if p is none such: no PROCESS");
-        for (int p : Scene.NO_PROCESS) {
-            Scene.refused("quit(" + p + ")", x -> x.quit(p), Due.IDLE);
-        }
+        Scene.refusedOfNoProcess("quit", (x, p) -> x.quit(p), Due.IDLE);
     }
 
     private static void quitOfOneNotIdle() {
@@ -392,9 +388,7 @@ public final class LifeEdgesTest {
 
     private static void guardOfNoProcess() {
         Due.sentence(4, "False if p is none such: no PROCESS");
-        for (int p : Scene.NO_PROCESS) {
-            Scene.refused("guard(" + p + ", 0, 0, 5, true)", x -> x.guard(p, 0, 0, 5, true), Due.IDLE);
-        }
+        Scene.refusedOfNoProcess("guard", (x, p) -> x.guard(p, 0, 0, 5, true), Due.IDLE);
     }
 
     private static void guardOfOneNotIdle() {
@@ -464,9 +458,7 @@ public final class LifeEdgesTest {
 
     private static void timeoutOfNoProcess() {
         Due.sentence(5, "false if p is none such: no PROCESS");
-        for (int p : Scene.NO_PROCESS) {
-            Scene.refused("timeout(" + p + ", 1)", x -> x.timeout(p, 1), Due.IDLE);
-        }
+        Scene.refusedOfNoProcess("timeout", (x, p) -> x.timeout(p, 1), Due.IDLE);
     }
 
     private static void timeoutOfOneNotIdle() {
@@ -594,9 +586,7 @@ public final class LifeEdgesTest {
 
     private static void offerOfNoProcess() {
         Due.sentence(6, "false if p is none such: no PROCESS");
-        for (int p : Scene.NO_PROCESS) {
-            Scene.refused("offer(" + p + ")", x -> x.offer(p), Due.IDLE);
-        }
+        Scene.refusedOfNoProcess("offer", (x, p) -> x.offer(p), Due.IDLE);
     }
 
     private static void offerOfOneNotIdle() {
@@ -690,9 +680,7 @@ public final class LifeEdgesTest {
 
     private static void finishOfNoProcess() {
         Due.sentence(9, "false if p is none such: no PROCESS");
-        for (int p : Scene.NO_PROCESS) {
-            Scene.refused("finish(" + p + ")", x -> x.finish(p), Due.DONE);
-        }
+        Scene.refusedOfNoProcess("finish", (x, p) -> x.finish(p), Due.DONE);
     }
 
     private static void finishOfOneNotDone() {

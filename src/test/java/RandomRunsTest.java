@@ -61,7 +61,7 @@ public final class RandomRunsTest {
         for (int run = 0; run < RUNS && Due.wrongs() == 0; run++) {
             RandomRunsTest test = new RandomRunsTest(run, branches);
             test.lively = 50 + 10 * (run % 5);
-            for (int i = 1; i < CALLS && Due.wrongs() == 0; i++) {
+            for (int i = 1; i <= CALLS && Due.wrongs() == 0; i++) {
                 test.call(i);
             }
         }

@@ -1,3 +1,4 @@
+import java.util.function.BiPredicate;
 import java.util.function.Predicate;
 
 /**
@@ -36,6 +37,23 @@ final class Scene {
             twoHoldsOne(x);
         }
         Due.until(x, 1, phase);
+        return x;
+    }
+
+    /** All four are in this PHASE: GONE, IDLE, one from LOOK on, or DONE at once. No two of them match. */
+    static ChoiceBench allIn(int phase) {
+        ChoiceBench x = new ChoiceBench(4);
+        for (int p = 0; p < 4 && phase != Due.GONE; p++) {
+            x.spawn(p);
+            x.guard(p, Due.SEND, p, 80 + p, true);
+            if (phase != Due.IDLE) {
+                x.offer(p);
+            }
+            if (phase == Due.DONE) {
+                x.cancel(p);
+            }
+            Due.until(x, p, phase);
+        }
         return x;
     }
 
@@ -108,6 +126,15 @@ final class Scene {
     static void refusedInAll(String call, Predicate<ChoiceBench> made, int[] phases) {
         for (int phase : phases) {
             refused(call, made, phase);
+        }
+    }
+
+    /** All that there are would take the call, so one that takes p for one of them is found out. */
+    static void refusedOfNoProcess(String call, BiPredicate<ChoiceBench, Integer> made, int phase) {
+        for (int p : NO_PROCESS) {
+            ChoiceBench x = allIn(phase);
+            Due.no(call + " of " + p, made.test(x, p));
+            goesOnAs(call + " of " + p, x, allIn(phase));
         }
     }
 

@@ -33,11 +33,7 @@ public final class StepEdgesTest {
 
     private static void stepOfNoProcess() {
         Due.sentence(7, "NONE of others: no PROCESS");
-        for (int p : Scene.NO_PROCESS) {
-            ChoiceBench x = Scene.oneIn(Due.CLAIM);
-            Due.is("step(" + p + ")", x.step(p), NONE);
-            Scene.goesOnAs("step(" + p + ")", x, Scene.oneIn(Due.CLAIM));
-        }
+        Scene.refusedOfNoProcess("step", (x, p) -> x.step(p) != NONE, Due.LOOK);
     }
 
     private static void stepOfAGoneOne() {
@@ -988,6 +984,11 @@ public final class StepEdgesTest {
         Scene.twoTakesOne(x);
         Due.is("step(1)", x.step(1), 0);
         Due.phase("TAKEN", x, 1, Due.WITHDRAW);
+        ChoiceBench y = Scene.oneIn(Due.BACK);
+        Due.until(y, 1, Due.END);
+        Scene.twoTakesOne(y);
+        Due.is("step(1)", y.step(1), 0);
+        Due.phase("TAKEN, and BUSY", y, 1, Due.WITHDRAW);
     }
 
     private static void endWhenOut() {
@@ -1038,7 +1039,7 @@ public final class StepEdgesTest {
     }
 
     private static void endWithoutGuards() {
-        Due.sentence(7, "without such a one: ASLEEP");
+        Due.sentence(7, "END: else ASLEEP: no GUARD is ON");
         ChoiceBench x = withGuardsOn(false, false);
         Due.phase("no GUARD is ON", x, 1, Due.END);
         Due.is("step(1)", x.step(1), 1);
@@ -1053,7 +1054,7 @@ public final class StepEdgesTest {
     }
 
     private static void asleepWhenTaken() {
-        Due.sentence(7, "ASLEEP: p's WORD is read. TAKEN or OUT: WITHDRAW");
+        Due.sentence(7, "ASLEEP: p's WORD is read. TAKEN .. WITHDRAW");
         ChoiceBench x = Scene.oneHeldIn(Due.ASLEEP);
         Scene.twoTakesOne(x);
         Due.phase("not before its STEP", x, 1, Due.ASLEEP);

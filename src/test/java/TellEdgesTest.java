@@ -245,7 +245,13 @@ public final class TellEdgesTest {
 
     private static void outcomeOfNoProcess() {
         Due.sentence(14, "NONE for others: no such PROCESS");
-        ChoiceBench x = Scene.oneIn(Due.DONE);
+        ChoiceBench x = new ChoiceBench(4);
+        Due.single(x, 0, Due.SEND, 0, 5);
+        x.step(0);
+        Due.single(x, 3, Due.RECEIVE, 0, 0);
+        Due.until(x, 3, Due.DONE);
+        hasOutcome(x, 0, new int[] {3, 0, 0, 1});
+        hasOutcome(x, 3, new int[] {0, 0, 5, 1});
         for (int p : Scene.NO_PROCESS) {
             hasOutcome(x, p, NO_OUTCOME);
         }
