@@ -333,21 +333,16 @@ public final class ForcedStateTest {
 
     private static void unmetForgetsOldGuards() throws ReflectiveOperationException {
         Due.sentence(18, "and have GUARDS that MATCH: now, not in an earlier OFFER");
-        ChoiceBench x = new ChoiceBench(2);
         for (int p = 0; p < 2; p++) {
-            sleep(x, p, new int[][] {{p, 0, 1}, {p, 0, 1}, {p, 0, 1}});
-        }
-        Due.is("they match", x.unmet(), 1);
-        for (int p = 0; p < 2; p++) {
+            ChoiceBench x = new ChoiceBench(2);
+            sleep(x, 1 - p, new int[][] {{Due.SEND, 0, 1}});
+            sleep(x, p, new int[][] {{Due.RECEIVE, 0, 1}, {Due.RECEIVE, 0, 1}, {Due.RECEIVE, 0, 1}});
+            Due.is("unmet()", x.unmet(), 1);
             x.cancel(p);
             x.finish(p);
             sleep(x, p, new int[][] {{Due.SEND, 0, 1}});
-            Due.is("the GUARDS of an earlier OFFER don't count", x.unmet(), p == 0 ? 1 : 0);
+            Due.is("unmet() in the next OFFER of " + p, x.unmet(), 0);
         }
-        x.cancel(0);
-        x.finish(0);
-        sleep(x, 0, new int[][] {{Due.SEND, 0, 1}, {Due.RECEIVE, 1, 1}});
-        Due.is("on either side", x.unmet(), 0);
     }
 
     private static void claimAll(ChoiceBench x, int claimer) throws ReflectiveOperationException {

@@ -8,8 +8,6 @@ public final class LifeTest {
         guard();
         guardLimits();
         timeoutLimits();
-        timeoutStartsAtOffer();
-        timeoutZeroIsNone();
         offer();
         offerSkipsWhatIsOff();
         finish();
@@ -150,34 +148,6 @@ public final class LifeTest {
         x.tick();
         Due.is("the last one that was taken counts", x.step(0), 3);
         Due.no("timeout of a DONE one", x.timeout(0, 1));
-    }
-
-    private static void timeoutStartsAtOffer() {
-        ChoiceBench x = new ChoiceBench(2);
-        x.spawn(0);
-        x.timeout(0, 3);
-        x.tick();
-        x.tick();
-        x.offer(0);
-        Due.is("END", x.step(0), 1);
-        x.tick();
-        x.tick();
-        Due.is("CLOCK 4, DUE at 5", x.step(0), 1);
-        x.tick();
-        Due.is("CLOCK 5, DUE at 5", x.step(0), 3);
-    }
-
-    private static void timeoutZeroIsNone() {
-        ChoiceBench x = new ChoiceBench(2);
-        x.spawn(0);
-        x.timeout(0, 5);
-        x.timeout(0, 0);
-        x.offer(0);
-        Due.is("no time-out at CLOCK 0", x.step(0), 1);
-        for (int i = 0; i < 20; i++) {
-            x.tick();
-        }
-        Due.is("no time-out at CLOCK 20", x.step(0), 1);
     }
 
     private static void offer() {

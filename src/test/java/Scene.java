@@ -116,6 +116,18 @@ final class Scene {
         }
     }
 
+    static void looksAgain(ChoiceBench x, int p) {
+        Due.until(x, p, Due.END);
+        Due.is("step(" + p + ") in END, BUSY", x.step(p), 0);
+        Due.phase("BUSY", x, p, Due.LOOK);
+    }
+
+    static void fallsAsleep(ChoiceBench x, int p) {
+        Due.until(x, p, Due.END);
+        Due.is("step(" + p + ") in END, not BUSY", x.step(p), 1);
+        Due.phase("not BUSY", x, p, Due.ASLEEP);
+    }
+
     /** What is refused changes nothing: x goes on as another one in the same state, without the call. */
     static void refused(String call, Predicate<ChoiceBench> made, int phase) {
         ChoiceBench x = oneIn(phase);

@@ -27,7 +27,6 @@ public final class StepTest {
         cancelInSecond();
         cancelInBack();
         cancelInBackWhenDue();
-        runLimits();
         runIsSteps();
         Due.end();
     }
@@ -670,30 +669,6 @@ public final class StepTest {
             Due.is("DUE and OUT", x.step(2), 0);
             Due.phase("it stays", x, 2, Due.LOOK);
         }
-    }
-
-    private static void runLimits() {
-        ChoiceBench x = new ChoiceBench(2);
-        x.spawn(0);
-        x.offer(0);
-        Due.is("run(-1, ..)", x.run(-1, 1), ChoiceBench.NONE);
-        Due.is("run(5001, ..)", x.run(5001, 1), ChoiceBench.NONE);
-        Due.is("run(MIN, ..)", x.run(Integer.MIN_VALUE, 1), ChoiceBench.NONE);
-        Due.is("run(MAX, ..)", x.run(Integer.MAX_VALUE, 1), ChoiceBench.NONE);
-        Due.is("run(0, ..)", x.run(0, 1), 0);
-        Due.is("no STEP", x.count(4), 0);
-        Due.phase("no STEP", x, 0, Due.END);
-        Due.is("run(5000, ..)", x.run(5000, 1), 0);
-        int seed = 1;
-        int due = 0;
-        for (int i = 0; i < 5000; i++) {
-            seed = seed * 1103515245 + 12345;
-            due += (seed >>> 16) % 2 == 0 ? 1 : 0;
-        }
-        Due.is("only the OFFERING one has STEPS", x.count(4), due);
-        x.cancel(0);
-        Due.is("run with a DONE one", x.run(100, 1), 0);
-        Due.is("a DONE one has none", x.count(4), due);
     }
 
     private static ChoiceBench crowd(int processes) {

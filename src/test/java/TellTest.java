@@ -8,7 +8,6 @@ public final class TellTest {
         outcomeOfBoth();
         outcomeIsTheLatest();
         entry();
-        entriesFillOneList();
         pairOfASender();
         pairOfAReceiver();
         manyPairs();
@@ -194,31 +193,6 @@ public final class TellTest {
         Due.single(x, 1, Due.SEND, 7, 72);
         x.step(1);
         entries(x, 7, 1, new int[] {1, 0, 72, 4, 3});
-    }
-
-    private static void entriesFillOneList() {
-        ChoiceBench x = new ChoiceBench(16);
-        for (int p = 0; p < 16; p++) {
-            x.spawn(p);
-            for (int g = 0; g < 8; g++) {
-                x.guard(p, Due.SEND, 2, 100 * p + g, true);
-            }
-            x.offer(p);
-        }
-        x.run(5000, 77);
-        Due.is("all on one CHANNEL", x.count(5), 128);
-        Due.is("all are published", x.count(6), 128);
-        for (int i = 0; i < 128; i++) {
-            Due.is("NUMBER", x.entry(2, i, 3), i + 1);
-        }
-        Due.is("no more", x.entry(2, 128, 3), NONE);
-        x.cancel(5);
-        Due.steps(x, 5, 8);
-        Due.is("eight went", x.count(5), 120);
-        Due.is("5 is DONE", x.phase(5), Due.DONE);
-        Due.is("no hole", x.entry(2, 119, 0) == NONE ? 1 : 0, 0);
-        Due.is("no more", x.entry(2, 120, 0), NONE);
-        Due.is("nobody TRIED", x.count(7), 0);
     }
 
     private static void pairs(ChoiceBench x, int i, int[] parts) {
